@@ -5,6 +5,7 @@ public final class ListenerTest {
         beginsWithWhatComesFirst();
         turnedRound();
         windowOfSixteen();
+        windowFromOneThatIsMissing();
         windowMovesOn();
         repeatedIsLate();
         fourGapsEndASpurt();
@@ -107,6 +108,17 @@ public final class ListenerTest {
         spurt("16 were played", net, "1 1 16 16 0 2 " + sumOf(0, 15));
         net.tick();
         spurt("a gap for the one that came too early", net, "1 1 17 16 1 2 " + (sumOf(0, 15) * 31 - 1));
+    }
+
+    private static void windowFromOneThatIsMissing() {
+        TalkNet net = talking();
+        passed(net, 0, 17);
+        net.carry(0);
+        Check.ticks(net, 2);
+        net.twice(16);
+        spurt("16 above one that is not kept is late", net, "1 1 1 1 0 1 0");
+        net.carry(15);
+        spurt("15 above it is kept", net, "1 1 1 1 0 1 0");
     }
 
     private static int sumOf(int first, int last) {

@@ -9,6 +9,7 @@ public final class NetTest {
         sixtyAreOnTheirWay();
         carriedOneMakesRoom();
         twiceMakesNoRoom();
+        fullRowKeepsItsOrder();
         Check.end();
     }
 
@@ -143,5 +144,19 @@ public final class NetTest {
         Check.due("it came", Check.relay(net, 0), "1 0 1 0");
         // The first unit is stopped now, so the second has room for two PASSED, each other one for one.
         Check.due("run 200", net.run(200), 120);
+    }
+
+    private static void fullRowKeepsItsOrder() {
+        TalkNet net = talking();
+        for (int i = 0; i < 60; i++) {
+            net.unit(0, 0, i);
+        }
+        for (int k : new int[] {59, 30, 0}) {
+            net.drop(k);
+        }
+        Check.due("messages", net.messages(), 57);
+        for (int k = 0; k < 57; k++) {
+            Check.due("unit at " + k, net.message(k, 4), k < 29 ? k + 1 : k + 2);
+        }
     }
 }
