@@ -1,4 +1,11 @@
-/** What the tests share: answers that are compared with what is due, and pictures of an object's state. */
+import java.util.function.Consumer;
+import java.util.function.Function;
+import java.util.function.Supplier;
+
+/**
+ * What the tests share: answers that are compared with what is due, and pictures of an object's state.
+ * An object is good for 512 calls, so no test makes more on one; a picture of all takes some 320, and six a message.
+ */
 final class Check {
     static final int GROUPS = 3;
     static final int MEMBERS = 6;
@@ -17,17 +24,35 @@ final class Check {
         }
     }
 
-    /** The call throws just this exception, and changes nothing of what can be seen. */
-    static void refused(TalkNet net, String what, Class<? extends RuntimeException> want, Runnable call) {
-        String before = all(net);
-        Object got = "nothing thrown";
+    /** The call throws just this exception, and the object is then as one on which it was not made. */
+    static void refused(Supplier<TalkNet> made, String what, Class<? extends RuntimeException> want,
+            Consumer<TalkNet> call) {
+        refused(made, what, want, call, Check::all);
+    }
+
+    /** As above, for an object of which a full picture would take too many calls. */
+    static void refused(Supplier<TalkNet> made, String what, Class<? extends RuntimeException> want,
+            Consumer<TalkNet> call, Function<TalkNet, String> picture) {
+        TalkNet called = made.get();
+        TalkNet untouched = made.get();
+        due(what + " throws", thrown(called, call), want.getSimpleName());
+        due(what + " changes nothing", picture.apply(called), picture.apply(untouched));
+        due(what + " makes no time go by", called.tick(), untouched.tick());
+    }
+
+    /** The call throws nothing. */
+    static void taken(Supplier<TalkNet> made, String what, Consumer<TalkNet> call) {
+        due(what + " throws", thrown(made.get(), call), "nothing");
+    }
+
+    /** The simple name of what the call throws, or "nothing". */
+    static String thrown(TalkNet net, Consumer<TalkNet> call) {
         try {
-            call.run();
+            call.accept(net);
         } catch (RuntimeException e) {
-            got = e.getClass();
+            return e.getClass().getSimpleName();
         }
-        due(what + " throws", got, want);
-        due(what + " changes nothing", all(net), before);
+        return "nothing";
     }
 
     static void end() {
@@ -45,10 +70,30 @@ final class Check {
 
     static String row(TalkNet net) {
         StringBuilder text = new StringBuilder();
-        for (int k = 0; k < net.messages(); k++) {
+        int count = net.messages();
+        for (int k = 0; k < count; k++) {
             text.append(k == 0 ? "" : " ").append(message(net, k));
         }
         return text.toString();
+    }
+
+    /** The first message with this picture is carried twice: it comes, and stays for another time. */
+    static void comes(TalkNet net, String picture) {
+        int k = find(net, picture);
+        due(picture + " is on its way", k >= 0, true);
+        if (k >= 0) {
+            net.twice(k);
+        }
+    }
+
+    private static int find(TalkNet net, String picture) {
+        int count = net.messages();
+        for (int k = 0; k < count; k++) {
+            if (message(net, k).equals(picture)) {
+                return k;
+            }
+        }
+        return -1;
     }
 
     static String server(TalkNet net, int group) {
@@ -61,7 +106,8 @@ final class Check {
 
     static String waiting(TalkNet net, int group) {
         StringBuilder text = new StringBuilder();
-        for (int place = 0; place < net.server(group, 2); place++) {
+        int count = net.server(group, 2);
+        for (int place = 0; place < count; place++) {
             text.append(place == 0 ? "" : " ").append(net.waiting(group, place));
         }
         return text.toString();
@@ -89,14 +135,24 @@ final class Check {
 
     static String all(TalkNet net) {
         StringBuilder text = new StringBuilder();
-        text.append("lost ").append(net.lost()).append("; row ").append(row(net));
+        text.append(net(net));
         for (int g = 0; g < GROUPS; g++) {
-            text.append("; server ").append(server(net, g));
-            text.append("; waiting ").append(waiting(net, g));
-            text.append("; relay ").append(relay(net, g));
-            for (int m = 0; m < MEMBERS; m++) {
-                text.append("; about ").append(about(net, g, m));
-            }
+            text.append("; ").append(group(net, g));
+        }
+        return text.toString();
+    }
+
+    static String net(TalkNet net) {
+        return "lost " + net.lost() + "; row " + row(net);
+    }
+
+    static String group(TalkNet net, int group) {
+        StringBuilder text = new StringBuilder();
+        text.append("server ").append(server(net, group));
+        text.append("; waiting ").append(waiting(net, group));
+        text.append("; relay ").append(relay(net, group));
+        for (int m = 0; m < MEMBERS; m++) {
+            text.append("; about ").append(about(net, group, m));
         }
         return text.toString();
     }
@@ -106,6 +162,29 @@ final class Check {
         TalkNet net = new TalkNet();
         for (int m = 0; m < count; m++) {
             net.member(group, m, priority);
+        }
+        return net;
+    }
+
+    /** A new object with a member in a state (0 .. 4) and another one beside it, and no message on its way. */
+    static TalkNet inState(int group, int member, int state) {
+        TalkNet net = new TalkNet();
+        int other = member == 0 ? 1 : 0;
+        net.rules(group, true, 100, 50, 20);
+        net.member(group, member, 3);
+        net.member(group, other, state == 4 ? 7 : 3);
+        if (state == 1) {
+            net.press(group, member, false);
+            net.drop(0);
+        }
+        if (state == 2) {
+            ask(net, group, other, false);
+        }
+        if (state >= 2) {
+            ask(net, group, member, false);
+        }
+        if (state == 4) {
+            ask(net, group, other, false);
         }
         return net;
     }

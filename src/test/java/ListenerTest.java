@@ -2,17 +2,27 @@
 public final class ListenerTest {
     public static void main(String[] args) {
         playsInOrder();
+        eachMemberPlays();
+        playsSinceTwoTicks();
         beginsWithWhatComesFirst();
+        beginsWithTheLastNumber();
         turnedRound();
+        belowWhatIsNextIsLate();
         windowOfSixteen();
         windowFromOneThatIsMissing();
         windowMovesOn();
-        repeatedIsLate();
+        keptAlreadyIsLate();
+        playedAlreadyIsLate();
         fourGapsEndASpurt();
         gapsMustBeOneBehindTheOther();
+        equalWhenItDoesNotGoOnIsLate();
+        aboveBeginsASpurt();
+        aboveBeginsASpurtWhenTheFormerIsOver();
         newSpurtForgets();
-        olderSpurtIsLate();
-        leavingEndsASpurt();
+        newSpurtForgetsAllOfTheWindow();
+        gapsAreCountedAnew();
+        belowTheGrantIsLate();
+        sumOfGaps();
         sumWraps();
         Check.end();
     }
@@ -47,6 +57,7 @@ public final class ListenerTest {
         Check.due(what, Check.about(net, 0, LISTENER, 8, 14), want);
     }
 
+    /** Promise 19: "10 what is next, 11 units played, 12 gaps, 13 late ones, 14 a sum". */
     private static void playsInOrder() {
         TalkNet net = talking();
         Check.ticks(net, 3);
@@ -68,6 +79,40 @@ public final class ListenerTest {
         Check.due("the talker hears itself not", Check.about(net, 0, 0, 8, 14), "0 0 0 0 0 0 0");
     }
 
+    /** "A LISTENER, each member": of each group, those that are there and do not talk. */
+    private static void eachMemberPlays() {
+        for (int g = 0; g < Check.GROUPS; g++) {
+            TalkNet net = Check.with(g, Check.MEMBERS, 0);
+            int talker = 2 * g;
+            Check.ask(net, g, talker, false);
+            net.unit(g, talker, 8);
+            Check.carryAll(net);
+            Check.ticks(net, 3);
+            for (int m = 0; m < Check.MEMBERS; m++) {
+                Check.due("member " + m + " of group " + g, Check.about(net, g, m, 8, 14),
+                        m == talker ? "0 0 0 0 0 0 0" : "1 1 2 1 1 0 247");
+            }
+        }
+    }
+
+    /** "whose spurt goes on since 2 ticks or more plays": since the tick in which it began, not since a later unit. */
+    private static void playsSinceTwoTicks() {
+        for (int begins = 0; begins <= 3; begins++) {
+            TalkNet net = talking();
+            Check.ticks(net, begins);
+            pass(net, 9, 8);
+            net.carry(0);
+            net.tick();
+            net.carry(0);
+            spurt("since 1 tick, begun at " + begins, net, "1 1 0 0 0 0 0");
+            net.tick();
+            spurt("since 2 ticks, begun at " + begins, net, "1 1 1 1 0 0 9");
+            net.tick();
+            spurt("since 3 ticks, begun at " + begins, net, "1 1 2 2 0 0 287");
+        }
+    }
+
+    /** "Above: a new spurt begins in this tick: b is next, nothing is kept." */
     private static void beginsWithWhatComesFirst() {
         TalkNet net = talking();
         passed(net, 0, 6);
@@ -77,6 +122,24 @@ public final class ListenerTest {
         spurt("those below are late", net, "1 1 5 0 0 5 0");
         Check.ticks(net, 3);
         spurt("those above are played", net, "1 1 7 2 0 5 161");
+    }
+
+    private static void beginsWithTheLastNumber() {
+        TalkNet net = talking();
+        for (int i = 0; i < 63; i++) {
+            net.unit(0, 0, i);
+            net.drop(0);
+        }
+        pass(net, 5);
+        Check.due("PASSED", Check.row(net), "9/0/1(1,63,5)");
+        net.carry(0);
+        spurt("63 is next", net, "1 1 63 0 0 0 0");
+        Check.ticks(net, 2);
+        spurt("it is played", net, "1 1 64 1 0 0 5");
+        Check.ticks(net, 3);
+        spurt("three gaps", net, "1 1 67 1 3 0 " + gaps(5, 3));
+        net.tick();
+        spurt("over", net, "1 0 68 1 4 0 " + gaps(5, 4));
     }
 
     private static void turnedRound() {
@@ -93,6 +156,25 @@ public final class ListenerTest {
         spurt("the others", net, "1 1 4 3 1 1 " + ((309 * 31 + 30) * 31 + 40));
     }
 
+    /** "b below what is next ...: late; otherwise it is kept" */
+    private static void belowWhatIsNextIsLate() {
+        TalkNet net = talking();
+        pass(net, 10, 20, 30, 40, 50);
+        net.carry(0);
+        Check.ticks(net, 4);
+        spurt("two gaps: 3 is next", net, "1 1 3 1 2 0 " + gaps(10, 2));
+        Check.comes(net, "9/0/1(1,1,20)");
+        spurt("two below", net, "1 1 3 1 2 1 " + gaps(10, 2));
+        Check.comes(net, "9/0/1(1,2,30)");
+        spurt("one below", net, "1 1 3 1 2 2 " + gaps(10, 2));
+        Check.comes(net, "9/0/1(1,3,40)");
+        spurt("what is next", net, "1 1 3 1 2 2 " + gaps(10, 2));
+        Check.comes(net, "9/0/1(1,4,50)");
+        Check.ticks(net, 2);
+        spurt("and one above are kept, and played", net, "1 1 5 3 2 2 " + ((gaps(10, 2) * 31 + 40) * 31 + 50));
+    }
+
+    /** "or 16 or more above it" */
     private static void windowOfSixteen() {
         TalkNet net = talking();
         passed(net, 0, 17);
@@ -144,17 +226,34 @@ public final class ListenerTest {
         spurt("all are played", net, "1 1 17 17 0 1 " + sumOf(0, 16));
     }
 
-    private static void repeatedIsLate() {
+    /** "or kept already: late" */
+    private static void keptAlreadyIsLate() {
+        TalkNet net = talking();
+        pass(net, 3, 4);
+        net.twice(0);
+        spurt("the first", net, "1 1 0 0 0 0 0");
+        net.twice(0);
+        spurt("the first again", net, "1 1 0 0 0 1 0");
+        net.twice(1);
+        spurt("the second", net, "1 1 0 0 0 1 0");
+        net.twice(1);
+        spurt("the second again", net, "1 1 0 0 0 2 0");
+        Check.ticks(net, 3);
+        spurt("each is played once", net, "1 1 2 2 0 2 97");
+    }
+
+    private static void playedAlreadyIsLate() {
         TalkNet net = talking();
         pass(net, 3);
         net.twice(0);
-        net.twice(0);
-        spurt("kept already", net, "1 1 0 0 0 1 0");
         Check.ticks(net, 2);
         net.twice(0);
-        spurt("played already", net, "1 1 1 1 0 2 3");
+        spurt("it is below what is next", net, "1 1 1 1 0 1 3");
+        net.tick();
+        spurt("and is not played again", net, "1 1 2 1 1 1 92");
     }
 
+    /** "with four gaps one behind the other the spurt is over" */
     private static void fourGapsEndASpurt() {
         TalkNet net = talking();
         pass(net, 2);
@@ -208,6 +307,59 @@ public final class ListenerTest {
         Check.due("granted anew", net.about(0, 0, 2), 3);
     }
 
+    /** "or equal when that does not go on: it is late" */
+    private static void equalWhenItDoesNotGoOnIsLate() {
+        TalkNet net = talking();
+        pass(net, 1, 2, 3, 4, 5, 6, 7);
+        net.carry(0);
+        Check.ticks(net, 5);
+        Check.comes(net, "9/0/1(1,4,5)");
+        spurt("three gaps, it goes on: kept", net, "1 1 4 1 3 0 " + gaps(1, 3));
+        net.tick();
+        spurt("played", net, "1 1 5 2 3 0 " + (gaps(1, 3) * 31 + 5));
+        Check.ticks(net, 4);
+        int sum = gaps(gaps(1, 3) * 31 + 5, 4);
+        spurt("four gaps, it is over", net, "1 0 9 2 7 0 " + sum);
+        pass(net, 8, 9, 10);
+        Check.comes(net, "9/0/1(1,9,10)");
+        spurt("what is next is late", net, "1 0 9 2 7 1 " + sum);
+        Check.ticks(net, 3);
+        spurt("and is not played", net, "1 0 9 2 7 1 " + sum);
+    }
+
+    /** "Above: a new spurt begins in this tick" */
+    private static void aboveBeginsASpurt() {
+        TalkNet net = talking();
+        pass(net, 1);
+        Check.carryAll(net);
+        Check.ticks(net, 2);
+        spurt("one is played", net, "1 1 1 1 0 0 1");
+        grantAnew(net);
+        pass(net, 50);
+        Check.carryAll(net);
+        spurt("b is next", net, "2 1 0 1 0 0 1");
+        net.tick();
+        spurt("since 1 tick", net, "2 1 0 1 0 0 1");
+        net.tick();
+        spurt("since 2 ticks", net, "2 1 1 2 0 0 81");
+    }
+
+    private static void aboveBeginsASpurtWhenTheFormerIsOver() {
+        TalkNet net = talking();
+        pass(net, 1);
+        Check.carryAll(net);
+        Check.ticks(net, 6);
+        spurt("over", net, "1 0 5 1 4 0 " + gaps(1, 4));
+        Check.dropAll(net);
+        grantAnew(net);
+        pass(net, 50, 60);
+        net.carry(1);
+        spurt("b is next", net, "2 1 1 1 4 0 " + gaps(1, 4));
+        Check.ticks(net, 2);
+        spurt("since 2 ticks", net, "2 1 2 2 4 0 " + (gaps(1, 4) * 31 + 60));
+    }
+
+    /** "nothing is kept" */
     private static void newSpurtForgets() {
         TalkNet net = talking();
         pass(net, 1, 2, 3);
@@ -222,7 +374,26 @@ public final class ListenerTest {
         spurt("since one tick", net, "2 1 1 1 0 0 1");
         Check.ticks(net, 4);
         spurt("one, and three gaps of its own", net, "2 1 5 2 3 0 " + gaps(91, 3));
-        gapsAreCountedAnew();
+    }
+
+    private static void newSpurtForgetsAllOfTheWindow() {
+        TalkNet net = talking();
+        passed(net, 100, 115);
+        Check.carryAll(net);
+        grantAnew(net);
+        passed(net, 0, 15);
+        Check.carryAll(net);
+        spurt("none is kept already", net, "2 1 0 0 0 0 0");
+        Check.ticks(net, 17);
+        spurt("the new ones are played", net, "2 1 16 16 0 0 " + sumOf(0, 15));
+        TalkNet few = talking();
+        passed(few, 100, 115);
+        Check.carryAll(few);
+        grantAnew(few);
+        pass(few, 7);
+        Check.carryAll(few);
+        Check.ticks(few, 6);
+        spurt("the old ones are not", few, "2 0 5 1 4 0 " + gaps(7, 4));
     }
 
     private static void gapsAreCountedAnew() {
@@ -242,7 +413,8 @@ public final class ListenerTest {
         Check.due("four", net.about(0, LISTENER, 9), 0);
     }
 
-    private static void olderSpurtIsLate() {
+    /** "PASSED comes: with a below its grant ...: it is late" */
+    private static void belowTheGrantIsLate() {
         TalkNet net = talking();
         pass(net, 1, 2);
         grantAnew(net);
@@ -250,26 +422,26 @@ public final class ListenerTest {
         net.carry(2);
         spurt("the newer comes first", net, "2 1 0 0 0 0 0");
         Check.carryAll(net);
-        spurt("the older are late", net, "2 1 0 0 0 2 0");
-        Check.ticks(net, 2);
-        spurt("the newer is played", net, "2 1 1 1 0 2 5");
+        spurt("the older are late, though they are next and above", net, "2 1 0 0 0 2 0");
+        Check.ticks(net, 3);
+        spurt("and are not played", net, "2 1 2 1 1 2 154");
     }
 
-    private static void leavingEndsASpurt() {
+    /** "(a gap as -1)" */
+    private static void sumOfGaps() {
         TalkNet net = talking();
-        pass(net, 1, 2, 3);
-        net.carry(0);
-        net.leave(0, LISTENER);
-        Check.ticks(net, 3);
-        spurt("over", net, "1 0 0 0 0 0 0");
-        net.carry(0);
-        net.member(0, LISTENER, 0);
-        net.carry(0);
-        spurt("there again: late", net, "1 0 0 0 0 1 0");
-        Check.ticks(net, 3);
-        spurt("nothing is played", net, "1 0 0 0 0 1 0");
+        pass(net, 0);
+        Check.carryAll(net);
+        Check.ticks(net, 2);
+        spurt("a 0 is played", net, "1 1 1 1 0 0 0");
+        int[] sums = {-1, -32, -993, -30784};
+        for (int i = 0; i < 4; i++) {
+            net.tick();
+            spurt((i + 1) + " gaps", net, "1 " + (i < 3 ? 1 : 0) + " " + (i + 2) + " 1 " + (i + 1) + " 0 " + sums[i]);
+        }
     }
 
+    /** "the former sum * 31 and the value, as an int that wraps around" */
     private static void sumWraps() {
         TalkNet net = talking();
         pass(net, Integer.MAX_VALUE, Integer.MIN_VALUE, -1);
@@ -277,5 +449,26 @@ public final class ListenerTest {
         Check.ticks(net, 4);
         int want = (Integer.MAX_VALUE * 31 + Integer.MIN_VALUE) * 31 - 1;
         spurt("as an int", net, "1 1 3 3 0 0 " + want);
+        wrapsAtTheGreatestInt();
+    }
+
+    private static void wrapsAtTheGreatestInt() {
+        // 69273666 * 31 is 2147483646, one below the greatest int.
+        int[] values = {0, 1, 2};
+        int[] sums = {2147483646, 2147483647, -2147483648};
+        int[] leastValues = {-1, -2, -3};
+        int[] leastSums = {-2147483647, -2147483648, 2147483647};
+        for (int i = 0; i < 3; i++) {
+            sumOfTwo(69273666, values[i], sums[i]);
+            sumOfTwo(-69273666, leastValues[i], leastSums[i]);
+        }
+    }
+
+    private static void sumOfTwo(int first, int second, int want) {
+        TalkNet net = talking();
+        pass(net, first, second);
+        Check.carryAll(net);
+        Check.ticks(net, 3);
+        spurt("the sum of " + first + " and " + second, net, "1 1 2 2 0 0 " + want);
     }
 }

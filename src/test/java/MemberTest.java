@@ -1,325 +1,477 @@
-/** Promises 3 to 8: what a member does, and what the messages that come to it change. */
+/** Promises 3 and 5 to 8: what a member does, and what the messages that come to it change in each state. */
 public final class MemberTest {
     public static void main(String[] args) {
-        comesAndGoes();
-        keepsWhatIsTold();
+        isThereWithAPriority();
         newPriorityChangesNothingElse();
         asks();
+        asksByNumbersOfItsOwn();
         asksAgain();
+        asksAgainAsItWas();
         releases();
         sendsUnits();
-        answersToOtherRequests();
-        answersWhenNothingIsHoped();
-        revokedAndEnded();
-        seesTalkers();
-        hearsNothingWhenGone();
-        whatItSentStaysOnItsWay();
-        leavesWithTheFloor();
-        leavesTheRow();
+        sendsAsManyUnitsOfEachGrant();
+        grantedComes();
+        grantedComesToOneThatIsQueued();
+        grantedOfAnOlderRequest();
+        queuedComes();
+        queuedComesWithAnotherPlace();
+        queuedOfAnOlderRequest();
+        deniedComes();
+        deniedOfAnOlderRequest();
+        revokedComes();
+        revokedOfAnOlderGrant();
+        endedComes();
+        endedOfAnOlderGrant();
+        revokedAndEndedComeBeforeGranted();
+        talkerComes();
+        talkerOfAnOlderGrant();
         Check.end();
     }
 
-    private static void comesAndGoes() {
+    /** Promise 3: "A member is there, with a priority". */
+    private static void isThereWithAPriority() {
         TalkNet net = new TalkNet();
         net.member(2, 5, 6);
         Check.due("about", Check.about(net, 2, 5, 0, 2), "1 6 0");
         Check.due("the same member of another group", Check.about(net, 1, 5, 0, 2), "0 0 0");
+        Check.due("another member of the group", Check.about(net, 2, 4, 0, 2), "0 0 0");
         Check.due("no message", net.messages(), 0);
-        Check.due("leave", net.leave(2, 5), true);
-        Check.due("leave when gone", net.leave(2, 5), false);
-        Check.due("its priority stays told", Check.about(net, 2, 5, 0, 2), "0 6 0");
-        Check.due("nothing held: no message", net.messages(), 0);
     }
 
-    private static void keepsWhatIsTold() {
-        TalkNet net = Check.with(0, 2, 3);
-        Check.ask(net, 0, 0, false);
-        Check.ask(net, 0, 1, false);
-        net.unit(0, 0, 5);
-        Check.carryAll(net);
-        net.leave(0, 0);
-        Check.carryAll(net);
-        Check.due("who left", Check.about(net, 0, 0), "0 3 0 1 0 1 1 -1 0 0 0 0 0 0 0");
-        net.leave(0, 1);
-        Check.due("who listened, and left", Check.about(net, 0, 1), "0 3 0 1 0 2 0 0 1 0 0 0 0 0 0");
-        net.member(0, 1, 4);
-        Check.due("who came again", Check.about(net, 0, 1), "1 4 0 1 0 2 0 0 1 0 0 0 0 0 0");
-        Check.due("its numbers go on", net.press(0, 1, false), 2);
-    }
-
+    /** Promise 3: "(a new one, if it is; all else that is told of it is as it was)". */
     private static void newPriorityChangesNothingElse() {
-        TalkNet net = Check.with(0, 2, 3);
-        Check.ask(net, 0, 0, false);
-        Check.ask(net, 0, 1, false);
-        net.member(0, 1, 6);
-        Check.due("about", Check.about(net, 0, 1), "1 6 2 1 0 0 0 0 0 0 0 0 0 0 0");
-        Check.due("waiting", Check.waiting(net, 0), "1");
-        Check.due("no message", net.messages(), 0);
+        for (int state = 0; state <= 4; state++) {
+            TalkNet net = Check.inState(0, 0, state);
+            String before = Check.about(net, 0, 0, 2, 14) + "; " + Check.server(net, 0) + "; " + Check.waiting(net, 0);
+            net.member(0, 0, 5);
+            Check.due("the new one in state " + state, Check.about(net, 0, 0, 0, 1), "1 5");
+            Check.due("all else in state " + state, Check.about(net, 0, 0, 2, 14) + "; " + Check.server(net, 0)
+                    + "; " + Check.waiting(net, 0), before);
+            Check.due("no message in state " + state, net.messages(), 0);
+        }
     }
 
+    /** Promise 5: "its request's number grows by 1, it asked, REQUEST is sent: the number." */
     private static void asks() {
         TalkNet net = Check.with(1, 4, 0);
         Check.due("press", net.press(1, 2, false), 1);
+        Check.due("about", Check.about(net, 1, 2, 2, 3), "1 1");
         Check.due("press by another", net.press(1, 3, true), 1);
         Check.due("row", Check.row(net), "1/1/2(1,0,0) 1/1/3(1,1,0)");
-        Check.due("about", Check.about(net, 1, 2, 2, 3), "1 1");
         net.release(1, 2);
         Check.due("press again", net.press(1, 2, true), 2);
+        Check.due("about", Check.about(net, 1, 2, 2, 3), "1 2");
         Check.due("row", Check.row(net), "1/1/2(1,0,0) 1/1/3(1,1,0) 2/1/2(1,0,0) 1/1/2(2,1,0)");
     }
 
+    private static void asksByNumbersOfItsOwn() {
+        TalkNet net = new TalkNet();
+        net.member(0, 1, 0);
+        net.member(2, 1, 0);
+        net.member(2, 2, 0);
+        for (int number = 1; number <= 20; number++) {
+            Check.due("press", net.press(2, 1, false), number);
+            net.release(2, 1);
+            Check.dropAll(net);
+        }
+        Check.due("another member's", net.press(2, 2, false), 1);
+        Check.due("another group's", net.press(0, 1, false), 1);
+    }
+
+    /** Promise 6: "A member that asked or is queued sends its REQUEST again". */
     private static void asksAgain() {
         TalkNet net = Check.with(0, 3, 0);
-        net.press(0, 1, true);
-        net.drop(0);
+        net.press(0, 1, false);
         net.again(0, 1);
-        Check.due("as it was: an emergency", Check.row(net), "1/0/1(1,1,0)");
-        Check.due("still asked", Check.about(net, 0, 1, 2, 3), "1 1");
+        Check.due("row", Check.row(net), "1/0/1(1,0,0) 1/0/1(1,0,0)");
+        Check.due("still asked", Check.about(net, 0, 1, 2, 4), "1 1 0");
         Check.carryAll(net);
+        Check.ask(net, 0, 0, true);
         Check.ask(net, 0, 2, false);
+        Check.due("queued", Check.about(net, 0, 2, 2, 4), "2 1 1");
         net.again(0, 2);
-        Check.due("as it was: none", Check.row(net), "1/0/2(1,0,0)");
-        Check.due("still queued", Check.about(net, 0, 2, 2, 4), "2 1 0");
+        Check.due("row", Check.row(net), "1/0/2(1,0,0)");
+        Check.due("still queued", Check.about(net, 0, 2, 2, 4), "2 1 1");
     }
 
-    private static void releases() {
+    /** Promise 6: "as it was". */
+    private static void asksAgainAsItWas() {
         TalkNet net = Check.with(0, 3, 0);
-        net.rules(0, true, 50, 50, 20);
-        net.press(0, 0, false);
-        net.release(0, 0);
-        Check.due("when asked", Check.row(net), "1/0/0(1,0,0) 2/0/0(1,0,0)");
-        Check.due("none", net.about(0, 0, 2), 0);
-        Check.carryAll(net);
-        Check.due("the grant came when nothing was asked", net.about(0, 0, 2), 0);
-        Check.ask(net, 0, 0, false);
-        Check.ask(net, 0, 1, true);
-        Check.due("revoked", net.about(0, 0, 2), 4);
+        net.press(0, 1, true);
+        net.press(0, 2, false);
+        net.again(0, 1);
+        net.again(0, 2);
+        Check.due("row", Check.row(net), "1/0/1(1,1,0) 1/0/2(1,0,0) 1/0/1(1,1,0) 1/0/2(1,0,0)");
         net.release(0, 1);
-        net.release(0, 0);
-        Check.due("when queued, and revoked", Check.row(net), "2/0/1(1,0,0) 2/0/0(2,0,0)");
-        Check.due("none", net.about(0, 0, 2) + net.about(0, 1, 2), 0);
+        net.release(0, 2);
+        Check.dropAll(net);
+        net.press(0, 1, false);
+        net.press(0, 2, true);
+        Check.dropAll(net);
+        net.again(0, 1);
+        net.again(0, 2);
+        Check.due("as the last one was", Check.row(net), "1/0/1(2,0,0) 1/0/2(2,1,0)");
     }
 
+    /** Promise 7: "A member sends RELEASE, and has none." */
+    private static void releases() {
+        for (int state = 1; state <= 4; state++) {
+            TalkNet net = Check.inState(2, 3, state);
+            net.release(2, 3);
+            Check.due("row in state " + state, Check.row(net), "2/2/3(1,0,0)");
+            Check.due("it has none, after state " + state, net.about(2, 3, 2), 0);
+            Check.due("the rest stays told", net.about(2, 3, 3) + " " + net.about(2, 3, 5), state < 3 ? "1 0" : "1 1");
+        }
+        TalkNet later = Check.inState(2, 3, 3);
+        later.release(2, 3);
+        later.press(2, 3, true);
+        later.release(2, 3);
+        Check.due("its last request's number", Check.row(later), "2/2/3(1,0,0) 1/2/3(2,1,0) 2/2/3(2,0,0)");
+    }
+
+    /** Promise 8: "sends a UNIT, with the number of units that it sent so far: that." */
     private static void sendsUnits() {
-        TalkNet net = Check.with(2, 2, 0);
-        net.rules(2, true, 50, 50, 20);
-        Check.ask(net, 2, 1, false);
-        Check.due("first", net.unit(2, 1, -7), 0);
-        Check.due("second", net.unit(2, 1, Integer.MAX_VALUE), 1);
-        Check.due("row", Check.row(net), "11/2/1(1,0,-7) 11/2/1(1,1,2147483647)");
-        Check.due("units sent", net.about(2, 1, 6), 2);
-        Check.dropAll(net);
-        Check.ask(net, 2, 0, true);
-        Check.due("revoked", net.about(2, 1, 2), 4);
-        Check.due("a revoked one still sends", net.unit(2, 1, 3), 2);
-        Check.due("row", Check.row(net), "11/2/1(1,2,3)");
+        for (int state = 3; state <= 4; state++) {
+            TalkNet net = Check.inState(2, 1, state);
+            Check.due("first", net.unit(2, 1, -7), 0);
+            Check.due("second", net.unit(2, 1, Integer.MAX_VALUE), 1);
+            Check.due("third", net.unit(2, 1, Integer.MIN_VALUE), 2);
+            Check.due("row", Check.row(net), "11/2/1(1,0,-7) 11/2/1(1,1,2147483647) 11/2/1(1,2,-2147483648)");
+            Check.due("state, and units sent", net.about(2, 1, 2) + " " + net.about(2, 1, 6), state + " 3");
+        }
+        TalkNet both = Check.inState(0, 0, 3);
+        both.unit(0, 0, 1);
+        both.carry(0);
+        both.press(0, 1, true);
+        Check.carryAll(both);
+        Check.due("revoked", both.about(0, 0, 2), 4);
+        Check.due("it goes on counting", both.unit(0, 0, 2), 1);
     }
 
-    private static void answersToOtherRequests() {
-        TalkNet net = Check.with(0, 6, 0);
-        net.press(0, 0, false);
-        net.carry(0);
-        net.release(0, 0);
-        net.press(0, 0, false);
-        net.carry(0);
-        Check.due("GRANTED to an older request", Check.about(net, 0, 0, 2, 5), "1 2 0 0");
-        Check.dropAll(net);
-        for (int m = 1; m < 6; m++) {
-            net.press(0, m, false);
-            net.carry(net.messages() - 1);
-            net.release(0, m);
-            net.press(0, m, false);
-        }
-        while (net.messages() > 0) {
-            if (net.message(0, 0) == 4 || net.message(0, 0) == 5) {
-                net.carry(0);
-            } else {
-                net.drop(0);
-            }
-        }
-        Check.due("QUEUED to an older request", Check.about(net, 0, 4, 2, 4), "1 2 0");
-        Check.due("DENIED to an older request", Check.about(net, 0, 5, 2, 4), "1 2 0");
-    }
-
-    private static void answersWhenNothingIsHoped() {
-        TalkNet net = Check.with(0, 2, 0);
-        net.press(0, 0, false);
-        net.carry(0);
-        net.twice(0);
+    /** "how many units it sent under that": of a new grant none, whatever was sent before. */
+    private static void sendsAsManyUnitsOfEachGrant() {
+        TalkNet net = Check.inState(0, 0, 3);
         net.unit(0, 0, 1);
-        net.carry(0);
-        Check.due("GRANTED twice does not count units anew", Check.about(net, 0, 0, 2, 6), "3 1 0 1 1");
-        Check.dropAll(net);
-        net.press(0, 1, false);
-        net.carry(0);
-        net.twice(0);
-        Check.due("queued", Check.about(net, 0, 1, 2, 4), "2 1 0");
+        net.unit(0, 0, 2);
         net.release(0, 0);
-        net.carry(1);
-        net.carry(1);
-        Check.due("granted", Check.about(net, 0, 1, 2, 5), "3 1 0 2");
-        net.carry(0);
-        Check.due("QUEUED comes to one that is granted", Check.about(net, 0, 1, 2, 5), "3 1 0 2");
-    }
-
-    private static void revokedAndEnded() {
-        TalkNet net = Check.with(0, 2, 0);
-        net.rules(0, true, 50, 50, 0);
-        Check.ask(net, 0, 0, false);
-        net.press(0, 1, true);
-        net.carry(0);
-        Check.due("row", Check.row(net), "4/0/1(1,0,0) 6/0/0(1,0,0)");
-        net.carry(1);
-        Check.due("revoked", Check.about(net, 0, 0, 2, 5), "4 1 0 1");
-        net.tick();
-        Check.due("ENDED", Check.message(net, 1), "7/0/0(1,0,0)");
-        net.twice(1);
-        Check.due("ended", Check.about(net, 0, 0, 2, 5), "0 1 0 1");
+        Check.due("they stay told", net.about(0, 0, 6), 2);
+        net.press(0, 0, false);
+        Check.due("when it asked, too", net.about(0, 0, 6), 2);
         Check.carryAll(net);
-        oldRevokedAndEnded();
+        Check.due("a new grant", Check.about(net, 0, 0, 2, 6), "3 2 0 2 0");
+        Check.due("its first unit", net.unit(0, 0, 3), 0);
+        Check.due("row", Check.row(net), "11/0/0(2,0,3)");
     }
 
-    private static void oldRevokedAndEnded() {
+    private static void state(String what, TalkNet net, int member, String want) {
+        Check.due(what, Check.about(net, 0, member, 2, 6), want);
+    }
+
+    private static final String FIRST_GRANTED = "3/0/0(1,1,0)";
+
+    /** "GRANTED comes: if it asked or is queued, and a is its request's number, it is granted b, no units sent." */
+    private static void grantedComes() {
         TalkNet net = Check.with(0, 2, 0);
-        net.rules(0, true, 50, 50, 0);
-        Check.ask(net, 0, 0, false);
-        net.press(0, 1, true);
-        net.carry(0);
-        net.drop(0);
-        net.tick();
-        Check.due("row", Check.row(net), "6/0/0(1,0,0) 7/0/0(1,0,0) 3/0/1(1,2,0) 10/0/1(2,1,0) 8/0/0(2,1,0)");
-        net.twice(1);
-        Check.due("ENDED to one that is granted", net.about(0, 0, 2), 0);
-        net.carry(0);
-        Check.due("REVOKED to one that has none", net.about(0, 0, 2), 0);
-        net.leave(0, 1);
-        net.press(0, 0, false);
-        net.carry(net.messages() - 1);
-        net.carry(net.messages() - 2);
-        Check.due("granted anew", Check.about(net, 0, 0, 2, 5), "3 2 0 3");
-        net.carry(0);
-        Check.due("ENDED of an older grant", net.about(0, 0, 2), 3);
-    }
-
-    private static void seesTalkers() {
-        TalkNet net = Check.with(0, 3, 0);
+        net.rules(0, true, 100, 50, 20);
         net.press(0, 0, false);
         net.carry(0);
-        net.carry(3);
-        Check.due("sees", net.about(0, 2, 7), 0);
-        Check.due("the other does not yet", net.about(0, 1, 7), -1);
-        net.carry(0);
-        net.release(0, 0);
-        net.press(0, 1, false);
-        net.carry(2);
-        net.carry(2);
-        Check.due("row", Check.row(net),
-                "10/0/0(1,0,0) 8/0/1(1,0,0) 10/0/0(1,-1,0) 3/0/1(1,2,0) 10/0/1(2,1,0) 8/0/0(2,1,0) 8/0/2(2,1,0)");
-        net.carry(6);
-        Check.due("sees the next", net.about(0, 2, 7), 1);
-        net.carry(1);
-        Check.due("sees the first only now", net.about(0, 1, 7), 0);
-        Check.due("the talker sees itself not", net.about(0, 1, 7), 0);
-        oldTalkers();
-    }
-
-    private static void oldTalkers() {
-        TalkNet net = Check.with(0, 3, 0);
-        net.press(0, 0, false);
-        net.carry(0);
-        net.carry(0);
-        net.release(0, 0);
-        net.press(0, 1, false);
-        net.carry(3);
-        net.carry(3);
-        net.carry(net.messages() - 1);
-        Check.due("sees the next", net.about(0, 2, 7), 1);
-        Check.due("an older TALKER", Check.message(net, 2), "8/0/2(1,0,0)");
-        net.carry(2);
-        Check.due("still sees the next", net.about(0, 2, 7), 1);
-    }
-
-    private static void hearsNothingWhenGone() {
-        TalkNet net = Check.with(0, 2, 0);
-        net.press(0, 0, false);
-        net.carry(0);
-        net.leave(0, 1);
-        net.carry(2);
-        Check.due("TALKER to one that is gone", net.about(0, 1, 7), -1);
-        net.carry(0);
-        net.member(0, 1, 0);
-        net.unit(0, 0, 4);
-        Check.carryAll(net);
-        net.unit(0, 0, 4);
-        net.carry(0);
-        Check.due("PASSED", Check.row(net), "9/0/1(1,1,4)");
-        net.leave(0, 1);
-        net.carry(0);
-        Check.due("PASSED to one that is gone is not late", Check.about(net, 0, 1, 7, 14), "-1 1 0 0 0 0 0 0");
-        Check.due("it goes from the row", net.messages(), 0);
-        requestOfOneThatIsGone();
-    }
-
-    private static void requestOfOneThatIsGone() {
-        TalkNet net = Check.with(0, 2, 0);
-        net.press(0, 0, false);
-        net.leave(0, 0);
-        net.twice(0);
-        Check.due("its REQUEST is not heard", Check.server(net, 0), "0 -1 0 0 -1 -1");
-        net.member(0, 0, 0);
-        net.carry(0);
-        Check.due("when it is there again, it is", Check.server(net, 0), "1 0 0 0 0 -1");
-    }
-
-    private static void whatItSentStaysOnItsWay() {
-        TalkNet net = Check.with(0, 2, 0);
-        Check.ask(net, 0, 0, false);
+        Check.comes(net, FIRST_GRANTED);
+        state("to one that asked", net, 0, "3 1 0 1 0");
+        net.unit(0, 0, 5);
         net.unit(0, 0, 6);
-        net.leave(0, 0);
-        Check.due("row", Check.row(net), "11/0/0(1,0,6) 10/0/0(1,-1,0)");
-        net.carry(0);
-        Check.due("its unit is passed", Check.relay(net, 0), "1 0 1 0");
-        releaseOfOneThatIsGone();
+        Check.comes(net, FIRST_GRANTED);
+        state("to one that is granted", net, 0, "3 1 0 1 2");
+        net.press(0, 1, true);
+        net.carry(net.messages() - 1);
+        Check.comes(net, "6/0/0(1,0,0)");
+        Check.comes(net, FIRST_GRANTED);
+        state("to one that is revoked", net, 0, "4 1 0 1 2");
+        net.release(0, 0);
+        Check.comes(net, FIRST_GRANTED);
+        state("to one that has none", net, 0, "0 1 0 1 2");
     }
 
-    private static void releaseOfOneThatIsGone() {
+    private static void grantedComesToOneThatIsQueued() {
+        TalkNet net = Check.with(0, 3, 0);
+        Check.ask(net, 0, 1, false);
+        Check.ask(net, 0, 2, false);
+        Check.ask(net, 0, 0, false);
+        state("queued", net, 0, "2 1 1 0 0");
+        net.leave(0, 1);
+        net.leave(0, 2);
+        Check.comes(net, "3/0/0(1,3,0)");
+        state("granted, its place stays told", net, 0, "3 1 1 3 0");
+    }
+
+    private static void grantedOfAnOlderRequest() {
         TalkNet net = Check.with(0, 2, 0);
         net.press(0, 0, false);
-        net.release(0, 0);
-        net.leave(0, 0);
-        net.carry(1);
-        net.member(0, 0, 0);
         net.carry(0);
-        Check.due("its RELEASE counts", Check.server(net, 0), "0 -1 0 0 -1 -1");
+        net.release(0, 0);
+        net.press(0, 0, false);
+        Check.comes(net, FIRST_GRANTED);
+        state("to one that asked anew", net, 0, "1 2 0 0 0");
+        net.press(0, 1, false);
+        Check.comes(net, "2/0/0(1,0,0)");
+        Check.comes(net, "1/0/1(1,0,0)");
+        Check.comes(net, "1/0/0(2,0,0)");
+        Check.comes(net, "4/0/0(2,0,0)");
+        state("queued", net, 0, "2 2 0 0 0");
+        Check.comes(net, FIRST_GRANTED);
+        state("to one that is queued anew", net, 0, "2 2 0 0 0");
     }
 
-    private static void leavesWithTheFloor() {
+    private static final String SECOND_QUEUED = "4/0/1(1,0,0)";
+
+    /** "QUEUED: if it asked or is queued, and a is that, it is queued, with place b." */
+    private static void queuedComes() {
+        TalkNet net = Check.with(0, 3, 0);
+        net.rules(0, true, 100, 50, 20);
+        Check.ask(net, 0, 0, false);
+        net.press(0, 1, false);
+        net.carry(0);
+        Check.comes(net, SECOND_QUEUED);
+        state("to one that asked", net, 1, "2 1 0 0 0");
+        net.release(0, 0);
+        net.carry(1);
+        Check.comes(net, "3/0/1(1,2,0)");
+        Check.comes(net, SECOND_QUEUED);
+        state("to one that is granted", net, 1, "3 1 0 2 0");
+        net.press(0, 2, true);
+        net.carry(net.messages() - 1);
+        Check.comes(net, "6/0/1(2,0,0)");
+        Check.comes(net, SECOND_QUEUED);
+        state("to one that is revoked", net, 1, "4 1 0 2 0");
+        net.release(0, 1);
+        Check.comes(net, SECOND_QUEUED);
+        state("to one that has none", net, 1, "0 1 0 2 0");
+    }
+
+    private static void queuedComesWithAnotherPlace() {
         TalkNet net = Check.with(0, 4, 0);
+        Check.ask(net, 0, 0, false);
+        net.press(0, 1, false);
+        net.carry(0);
+        Check.ask(net, 0, 2, true);
+        net.again(0, 1);
+        net.carry(0);
+        net.again(0, 1);
+        net.leave(0, 2);
+        net.carry(1);
+        Check.due("row", Check.row(net), "4/0/1(1,1,0) 4/0/1(1,0,0)");
+        net.twice(0);
+        state("the place that came", net, 1, "2 1 1 0 0");
+        net.twice(1);
+        state("the next", net, 1, "2 1 0 0 0");
+        net.twice(0);
+        state("turned round", net, 1, "2 1 1 0 0");
+    }
+
+    private static void queuedOfAnOlderRequest() {
+        TalkNet net = Check.with(0, 3, 0);
         Check.ask(net, 0, 0, false);
         Check.ask(net, 0, 2, false);
-        net.tick();
-        Check.due("leave", net.leave(0, 0), true);
-        Check.due("no ENDED, no TALKER to it", Check.row(net),
-                "3/0/2(1,2,0) 10/0/2(2,2,0) 8/0/1(2,2,0) 8/0/3(2,2,0)");
-        Check.due("server", Check.server(net, 0), "2 2 0 0 1 -1");
-        Check.dropAll(net);
+        net.press(0, 1, false);
+        net.carry(0);
+        net.release(0, 1);
+        net.press(0, 1, false);
+        Check.comes(net, "4/0/1(1,1,0)");
+        state("to one that asked anew", net, 1, "1 2 0 0 0");
         net.leave(0, 2);
-        Check.due("nobody waits", Check.row(net), "10/0/0(2,-1,0)");
-        Check.due("server", Check.server(net, 0), "2 -1 0 0 -1 -1");
+        Check.comes(net, "1/0/1(2,0,0)");
+        Check.comes(net, "4/0/1(2,0,0)");
+        Check.comes(net, "4/0/1(1,1,0)");
+        state("to one that is queued anew", net, 1, "2 2 0 0 0");
     }
 
-    private static void leavesTheRow() {
-        TalkNet net = Check.with(0, 4, 0);
-        for (int m = 0; m < 4; m++) {
+    /** Member 0 holds, 1 .. 4 wait, member 5 was denied: the DENIED is on its way. */
+    private static TalkNet denied() {
+        TalkNet net = Check.with(0, 6, 0);
+        for (int m = 0; m < 5; m++) {
             Check.ask(net, 0, m, false);
         }
-        net.leave(0, 2);
-        Check.due("waiting", Check.waiting(net, 0), "1 3");
-        Check.due("no message", net.messages(), 0);
-        Check.due("state", net.about(0, 2, 2), 0);
-        net.member(0, 2, 0);
-        Check.due("the next number", net.press(0, 2, false), 2);
-        Check.carryAll(net);
-        Check.due("waiting", Check.waiting(net, 0), "1 3 2");
+        net.press(0, 5, false);
+        net.carry(0);
+        return net;
+    }
+
+    /** "DENIED: likewise it has none." */
+    private static void deniedComes() {
+        TalkNet net = denied();
+        Check.due("row", Check.row(net), "5/0/5(1,0,0)");
+        state("asked", net, 5, "1 1 0 0 0");
+        net.twice(0);
+        state("to one that asked", net, 5, "0 1 0 0 0");
+        net.twice(0);
+        state("to one that has none", net, 5, "0 1 0 0 0");
+    }
+
+    private static void deniedOfAnOlderRequest() {
+        TalkNet net = denied();
+        net.release(0, 5);
+        net.press(0, 5, false);
+        net.twice(0);
+        state("to one that asked anew", net, 5, "1 2 0 0 0");
+        net.leave(0, 1);
+        Check.comes(net, "1/0/5(2,0,0)");
+        Check.comes(net, "4/0/5(2,3,0)");
+        net.twice(0);
+        state("to one that is queued anew", net, 5, "2 2 3 0 0");
+        for (int m = 2; m < 5; m++) {
+            net.leave(0, m);
+        }
+        net.leave(0, 0);
+        Check.comes(net, "3/0/5(2,2,0)");
+        net.twice(0);
+        state("to one that is granted anew", net, 5, "3 2 3 2 0");
+    }
+
+    /** Member 0 is granted 1, and was revoked for member 1 and ended; both messages, and no others, are on their way. */
+    private static TalkNet revokedAndEnded() {
+        TalkNet net = Check.with(0, 2, 0);
+        net.rules(0, true, 100, 50, 0);
+        Check.ask(net, 0, 0, false);
+        net.press(0, 1, true);
+        net.carry(0);
+        net.drop(0);
+        net.tick();
+        while (net.messages() > 2) {
+            net.drop(2);
+        }
+        Check.due("row", Check.row(net), REVOKED + " " + ENDED);
+        state("granted", net, 0, "3 1 0 1 0");
+        return net;
+    }
+
+    private static final String REVOKED = "6/0/0(1,0,0)";
+    private static final String ENDED = "7/0/0(1,0,0)";
+
+    /** "REVOKED: if it is granted a, it is revoked." */
+    private static void revokedComes() {
+        TalkNet net = revokedAndEnded();
+        Check.comes(net, REVOKED);
+        state("to one that is granted a", net, 0, "4 1 0 1 0");
+        Check.comes(net, REVOKED);
+        state("to one that is revoked", net, 0, "4 1 0 1 0");
+        net.release(0, 0);
+        Check.comes(net, REVOKED);
+        state("to one that has none", net, 0, "0 1 0 1 0");
+        net.press(0, 0, false);
+        Check.comes(net, REVOKED);
+        state("to one that asked", net, 0, "1 2 0 1 0");
+        Check.comes(net, "1/0/0(2,0,0)");
+        Check.comes(net, "4/0/0(2,0,0)");
+        Check.comes(net, REVOKED);
+        state("to one that is queued", net, 0, "2 2 0 1 0");
+    }
+
+    private static void revokedOfAnOlderGrant() {
+        TalkNet net = revokedAndEnded();
+        net.release(0, 0);
+        net.leave(0, 1);
+        net.press(0, 0, false);
+        Check.comes(net, "1/0/0(2,0,0)");
+        Check.comes(net, "3/0/0(2,3,0)");
+        Check.comes(net, REVOKED);
+        state("to one that is granted anew", net, 0, "3 2 0 3 0");
+    }
+
+    /** "ENDED: if it is granted or revoked a, it has none." */
+    private static void endedComes() {
+        TalkNet granted = revokedAndEnded();
+        Check.comes(granted, ENDED);
+        state("to one that is granted a", granted, 0, "0 1 0 1 0");
+        Check.comes(granted, REVOKED);
+        state("REVOKED behind it", granted, 0, "0 1 0 1 0");
+        Check.comes(granted, ENDED);
+        state("to one that has none", granted, 0, "0 1 0 1 0");
+        granted.press(0, 0, false);
+        Check.comes(granted, ENDED);
+        state("to one that asked", granted, 0, "1 2 0 1 0");
+        Check.comes(granted, "1/0/0(2,0,0)");
+        Check.comes(granted, "4/0/0(2,0,0)");
+        Check.comes(granted, ENDED);
+        state("to one that is queued", granted, 0, "2 2 0 1 0");
+
+        TalkNet revoked = revokedAndEnded();
+        Check.comes(revoked, REVOKED);
+        Check.comes(revoked, ENDED);
+        state("to one that is revoked a", revoked, 0, "0 1 0 1 0");
+    }
+
+    private static void endedOfAnOlderGrant() {
+        TalkNet net = revokedAndEnded();
+        net.release(0, 0);
+        net.leave(0, 1);
+        net.press(0, 0, false);
+        Check.comes(net, "1/0/0(2,0,0)");
+        Check.comes(net, "3/0/0(2,3,0)");
+        Check.comes(net, ENDED);
+        state("to one that is granted anew", net, 0, "3 2 0 3 0");
+        net.member(0, 1, 7);
+        net.press(0, 1, false);
+        Check.comes(net, "1/0/1(2,0,0)");
+        Check.comes(net, "6/0/0(3,0,0)");
+        Check.comes(net, ENDED);
+        state("to one that is revoked anew", net, 0, "4 2 0 3 0");
+    }
+
+    private static void revokedAndEndedComeBeforeGranted() {
+        TalkNet net = Check.with(0, 2, 0);
+        net.rules(0, true, 100, 50, 0);
+        net.press(0, 0, false);
+        net.carry(0);
+        net.press(0, 1, true);
+        net.carry(net.messages() - 1);
+        net.tick();
+        Check.comes(net, REVOKED);
+        Check.comes(net, ENDED);
+        state("to one that asked, and knows of no grant", net, 0, "1 1 0 0 0");
+        Check.comes(net, FIRST_GRANTED);
+        state("GRANTED behind them", net, 0, "3 1 0 1 0");
+    }
+
+    /** "TALKER: if a is not below the one that it saw last (0 at first), it sees b talk." */
+    private static void talkerComes() {
+        TalkNet net = Check.with(0, 3, 0);
+        Check.due("at first", net.about(0, 2, 7), -1);
+        net.press(0, 0, false);
+        net.carry(0);
+        Check.comes(net, "8/0/2(1,0,0)");
+        Check.due("above 0", net.about(0, 2, 7), 0);
+        Check.comes(net, "8/0/2(1,0,0)");
+        Check.due("equal", net.about(0, 2, 7), 0);
+        Check.due("the other does not yet", net.about(0, 1, 7), -1);
+        net.press(0, 1, false);
+        net.carry(net.messages() - 1);
+        net.leave(0, 0);
+        Check.comes(net, "8/0/2(2,1,0)");
+        Check.due("above 1", net.about(0, 2, 7), 1);
+        Check.comes(net, "8/0/1(1,0,0)");
+        Check.due("the one that talks now sees the first", net.about(0, 1, 7), 0);
+        Check.comes(net, "3/0/1(1,2,0)");
+        Check.due("a GRANTED does not change whom it sees", net.about(0, 1, 7), 0);
+        net.leave(0, 1);
+        Check.due("nor does the end of a grant", net.about(0, 2, 7), 1);
+    }
+
+    private static void talkerOfAnOlderGrant() {
+        TalkNet net = Check.with(0, 4, 0);
+        for (int m = 0; m < 3; m++) {
+            net.press(0, m, false);
+        }
+        net.run(3);
+        net.leave(0, 0);
+        net.leave(0, 1);
+        Check.comes(net, "8/0/3(2,1,0)");
+        Check.due("the second", net.about(0, 3, 7), 1);
+        Check.comes(net, "8/0/3(1,0,0)");
+        Check.due("the first is below", net.about(0, 3, 7), 1);
+        Check.comes(net, "8/0/3(3,2,0)");
+        Check.due("the third", net.about(0, 3, 7), 2);
+        Check.comes(net, "8/0/3(2,1,0)");
+        Check.due("the second is below", net.about(0, 3, 7), 2);
+        Check.comes(net, "8/0/3(1,0,0)");
+        Check.due("so is the first", net.about(0, 3, 7), 2);
     }
 }

@@ -447,21 +447,26 @@ final class Model {
         return row.get(k);
     }
 
-    /** The same picture that Check.all makes of a TalkNet. */
-    String all() {
+    /** The same picture that Check.net makes of a TalkNet. */
+    String net() {
         StringBuilder text = new StringBuilder("lost " + lost + "; row ");
         for (int k = 0; k < row.size(); k++) {
             text.append(k == 0 ? "" : " ").append(row.get(k));
         }
-        for (Circle circle : circles) {
-            text.append("; server ").append(server(circle)).append("; waiting ");
-            for (int place = 0; place < circle.waits.size(); place++) {
-                text.append(place == 0 ? "" : " ").append(circle.waits.get(place).member());
-            }
-            text.append("; relay ").append(words(circle.gate, circle.gateMember, circle.passedCount, circle.stopped));
-            for (Person person : circle.people) {
-                text.append("; about ").append(about(person));
-            }
+        return text.toString();
+    }
+
+    /** The same picture that Check.group makes of a TalkNet. */
+    String group(int group) {
+        Circle circle = circles[group];
+        StringBuilder text = new StringBuilder();
+        text.append("server ").append(server(circle)).append("; waiting ");
+        for (int place = 0; place < circle.waits.size(); place++) {
+            text.append(place == 0 ? "" : " ").append(circle.waits.get(place).member());
+        }
+        text.append("; relay ").append(words(circle.gate, circle.gateMember, circle.passedCount, circle.stopped));
+        for (Person person : circle.people) {
+            text.append("; about ").append(about(person));
         }
         return text.toString();
     }

@@ -1,9 +1,16 @@
+import java.util.ArrayList;
+import java.util.List;
 import java.util.Random;
+import java.util.function.Function;
 
-/** Chance-made runs of calls, the same every time, that TalkNet and the plain model must answer alike. */
+/**
+ * Chance-made runs of calls, the same every time, that TalkNet and the plain model must answer alike.
+ * A picture takes many of an object's 512 calls, so each run is made anew for each picture of its end.
+ */
 public final class ModelTest {
-    private static final int RUNS = 600;
-    private static final int CALLS = 512;
+    private static final int RUNS = 4000;
+    private static final int MOST_CALLS = 400;
+    private static final int CALLS_OF_AN_OBJECT = 512;
 
     // A mixed run; one whose messages mostly come in order; one whose row is mostly full.
     private static final int[][] WEIGHTS = {
@@ -51,34 +58,51 @@ public final class ModelTest {
     }
 
     public static void main(String[] args) {
-        for (int run = 0; run < RUNS; run++) {
-            if (!oneRun(run)) {
-                break;
-            }
+        boolean alike = true;
+        for (int run = 0; run < RUNS && alike; run++) {
+            alike = oneRun(run);
         }
         Check.end();
     }
 
     private static boolean oneRun(int run) {
         Random chance = new Random(run);
-        TalkNet net = new TalkNet();
-        Model model = new Model();
         int[] weights = WEIGHTS[run % WEIGHTS.length];
         int groups = 1 + chance.nextInt(3);
-        for (int i = 0; i < CALLS; i++) {
-            Call call = choose(chance, weights, groups, net);
-            String got = answer(net, call);
-            String want = answer(model, call);
-            String now = Check.all(net);
-            String dueNow = model.all();
-            if (!got.equals(want) || !now.equals(dueNow)) {
-                Check.due("run " + run + ", call " + i + " " + call + ", answer", got, want);
-                Check.due("run " + run + ", call " + i + " " + call + ", state", now, dueNow);
+        int count = 1 + chance.nextInt(MOST_CALLS);
+        Model model = new Model();
+        List<Call> calls = new ArrayList<>();
+        List<String> answers = new ArrayList<>();
+        for (int i = 0; i < count; i++) {
+            Call call = choose(chance, weights, groups, model);
+            calls.add(call);
+            answers.add(answer(model, call));
+        }
+        boolean alike = true;
+        // The row's picture asks for six parts of each message, and how many there are and were lost.
+        if (count + 2 + 6 * model.row.size() <= CALLS_OF_AN_OBJECT) {
+            alike = isAlike("run " + run, calls, answers, Check::net, model.net());
+        }
+        for (int g = 0; g < Check.GROUPS; g++) {
+            int group = g;
+            alike = alike && isAlike("run " + run, calls, answers, net -> Check.group(net, group), model.group(g));
+        }
+        return alike;
+    }
+
+    private static boolean isAlike(String run, List<Call> calls, List<String> answers,
+            Function<TalkNet, String> picture, String want) {
+        TalkNet net = new TalkNet();
+        for (int i = 0; i < calls.size(); i++) {
+            String got = answer(net, calls.get(i));
+            if (!got.equals(answers.get(i))) {
+                Check.due(run + ", call " + i + " " + calls.get(i), got, answers.get(i));
                 return false;
             }
         }
-        Check.due("run " + run, Check.all(net), model.all());
-        return true;
+        String got = picture.apply(net);
+        Check.due(run + ", behind " + calls.size() + " calls", got, want);
+        return got.equals(want);
     }
 
     private static String answer(TalkNet net, Call call) {
@@ -97,7 +121,7 @@ public final class ModelTest {
         }
     }
 
-    private static Call choose(Random chance, int[] weights, int groups, TalkNet net) {
+    private static Call choose(Random chance, int[] weights, int groups, Model model) {
         int g = rarely(chance) ? chance.nextInt(5) - 1 : chance.nextInt(groups);
         int m = rarely(chance) ? chance.nextInt(8) - 1 : chance.nextInt(6);
         int which = weighted(chance, weights);
@@ -109,11 +133,11 @@ public final class ModelTest {
             case 3:
                 return new Call(which, g, m, 0, 0, 0, chance.nextInt(6) == 0);
             case 6:
-                return new Call(which, g, talker(chance, net, g, m), chance.nextInt(), 0, 0, false);
+                return new Call(which, g, talker(chance, model, g, m), chance.nextInt(), 0, 0, false);
             case 7:
             case 8:
             case 9:
-                return new Call(which, g, m, rarely(chance) ? -1 : chance.nextInt(net.messages() + 1), 0, 0, false);
+                return new Call(which, g, m, rarely(chance) ? -1 : chance.nextInt(model.row.size() + 1), 0, 0, false);
             case 10:
                 return new Call(which, g, m, rarely(chance) ? chance.nextInt(240) - 20 : chance.nextInt(12), 0, 0, false);
             default:
@@ -126,12 +150,13 @@ public final class ModelTest {
     }
 
     /** Mostly one that may talk: units by others are but refused. */
-    private static int talker(Random chance, TalkNet net, int g, int m) {
+    private static int talker(Random chance, Model model, int g, int m) {
         if (g < 0 || g >= Check.GROUPS || chance.nextInt(10) == 0) {
             return m;
         }
         for (int other = 0; other < Check.MEMBERS; other++) {
-            if (net.about(g, other, 2) >= 3) {
+            String state = model.circles[g].people[other].state;
+            if (state.equals("granted") || state.equals("revoked")) {
                 return other;
             }
         }
