@@ -330,18 +330,20 @@ public final class ListenerTest {
     /** "Above: a new spurt begins in this tick" */
     private static void aboveBeginsASpurt() {
         TalkNet net = talking();
+        net.tick();
         pass(net, 1);
+        net.twice(0);
         Check.carryAll(net);
         Check.ticks(net, 2);
-        spurt("one is played", net, "1 1 1 1 0 0 1");
+        spurt("one is played, one is late", net, "1 1 1 1 0 1 1");
         grantAnew(net);
         pass(net, 50);
         Check.carryAll(net);
-        spurt("b is next", net, "2 1 0 1 0 0 1");
+        spurt("b is next, all else stays told", net, "2 1 0 1 0 1 1");
         net.tick();
-        spurt("since 1 tick", net, "2 1 0 1 0 0 1");
+        spurt("since 1 tick", net, "2 1 0 1 0 1 1");
         net.tick();
-        spurt("since 2 ticks", net, "2 1 1 2 0 0 81");
+        spurt("since 2 ticks", net, "2 1 1 2 0 1 81");
     }
 
     private static void aboveBeginsASpurtWhenTheFormerIsOver() {

@@ -5,6 +5,7 @@ public final class MemberTest {
         newPriorityChangesNothingElse();
         asks();
         asksByNumbersOfItsOwn();
+        askingKeepsWhatIsTold();
         asksAgain();
         asksAgainAsItWas();
         releases();
@@ -24,6 +25,7 @@ public final class MemberTest {
         endedOfAnOlderGrant();
         revokedAndEndedComeBeforeGranted();
         talkerComes();
+        talkerComesInEachState();
         talkerOfAnOlderGrant();
         Check.end();
     }
@@ -76,6 +78,23 @@ public final class MemberTest {
         }
         Check.due("another member's", net.press(2, 2, false), 1);
         Check.due("another group's", net.press(0, 1, false), 1);
+    }
+
+    /** "(What is told stays until it is something else.)": place, grant and units sent of an earlier request. */
+    private static void askingKeepsWhatIsTold() {
+        TalkNet net = Check.with(0, 3, 0);
+        for (int m = 0; m < 3; m++) {
+            Check.ask(net, 0, m, false);
+        }
+        net.leave(0, 0);
+        net.leave(0, 1);
+        Check.carryAll(net);
+        net.unit(0, 2, 9);
+        state("granted", net, 2, "3 1 1 3 1");
+        net.release(0, 2);
+        state("released", net, 2, "0 1 1 3 1");
+        net.press(0, 2, false);
+        state("asked", net, 2, "1 2 1 3 1");
     }
 
     /** Promise 6: "A member that asked or is queued sends its REQUEST again". */
@@ -453,6 +472,20 @@ public final class MemberTest {
         Check.due("a GRANTED does not change whom it sees", net.about(0, 1, 7), 0);
         net.leave(0, 1);
         Check.due("nor does the end of a grant", net.about(0, 2, 7), 1);
+    }
+
+    private static void talkerComesInEachState() {
+        for (int state = 0; state <= 4; state++) {
+            TalkNet net = Check.inState(0, 2, state);
+            net.member(0, 3, 7);
+            net.press(0, 3, true);
+            net.carry(0);
+            // An emergency: whoever holds the floor has lost it 20 ticks later.
+            Check.ticks(net, 20);
+            Check.due("who holds", net.server(0, 1), 3);
+            Check.comes(net, "8/0/2(" + net.server(0, 0) + ",3,0)");
+            Check.due("it sees it talk in state " + state, net.about(0, 2, 2) + " " + net.about(0, 2, 7), state + " 3");
+        }
     }
 
     private static void talkerOfAnOlderGrant() {

@@ -711,17 +711,15 @@ public final class ServerTest {
     }
 
     private static void waitingAgainDoesNotPreempt() {
-        TalkNet net = heldBy(0, 3, 7, 4);
-        Check.ask(net, 0, 1, false);
+        TalkNet net = Check.with(0, 2, 3);
         net.rules(0, true, 50, 50, 20);
-        Check.ask(net, 0, 2, false);
-        net.leave(0, 0);
-        Check.carryAll(net);
-        server("the first holds now, by rules that preempt", net, "2 1 1 0 0 -1");
-        net.member(0, 2, 7);
-        net.again(0, 2);
+        Check.ask(net, 0, 0, false);
+        Check.ask(net, 0, 1, false);
+        net.member(0, 1, 7);
+        net.again(0, 1);
         net.carry(0);
-        row("an equal REQUEST revokes nobody", net, "4/0/2(1,0,0)");
+        row("an equal REQUEST revokes nobody", net, "4/0/1(1,0,0)");
+        server("the holder is not revoked", net, "1 0 1 0 0 -1");
     }
 
     /** "REVOKED to the holder, who is revoked from this tick on." */
