@@ -17,6 +17,7 @@ public final class GoneTest {
         requestOfOneThatIsGone();
         requestOfOneThatIsThereAgain();
         sameRequestOfOneThatIsThereAgain();
+        deniedRequestOfOneThatIsThereAgain();
         releaseOfOneThatIsGone();
         equalReleaseOfOneThatIsGone();
         unitOfOneThatIsGone();
@@ -245,6 +246,22 @@ public final class GoneTest {
         net.run(2);
         Check.due("no answer", net.messages(), 0);
         Check.due("server", Check.server(net, 0), "1 -1 0 0 -1 -1");
+    }
+
+    /** Leaving takes what is held and waited for, and nothing else: what was denied stays so. */
+    private static void deniedRequestOfOneThatIsThereAgain() {
+        TalkNet net = fiveAsked();
+        net.press(0, 5, false);
+        net.twice(0);
+        net.drop(1);
+        net.leave(0, 5);
+        net.twice(0);
+        Check.due("not there: no answer", Check.row(net), "1/0/5(1,0,0)");
+        net.member(0, 5, 0);
+        net.leave(0, 4);
+        net.carry(0);
+        Check.due("there again", Check.row(net), "5/0/5(1,0,0)");
+        Check.due("waiting", Check.waiting(net, 0), "1 2 3");
     }
 
     /** "its RELEASE counts": its number is the greatest now, so that the REQUEST behind it is an equal one. */

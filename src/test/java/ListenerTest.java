@@ -21,6 +21,8 @@ public final class ListenerTest {
         newSpurtForgets();
         newSpurtForgetsAllOfTheWindow();
         gapsAreCountedAnew();
+        gapsGoOnWhenOthersCome();
+        olderOnesChangeNothingElse();
         belowTheGrantIsLate();
         sumOfGaps();
         sumWraps();
@@ -413,6 +415,49 @@ public final class ListenerTest {
         Check.due("three gaps of the new spurt", net.about(0, LISTENER, 9), 1);
         net.tick();
         Check.due("four", net.about(0, LISTENER, 9), 0);
+    }
+
+    /** What comes between two gaps, late or kept, does not count for "one behind the other": what is played does. */
+    private static void gapsGoOnWhenOthersCome() {
+        TalkNet net = talking();
+        passed(net, 0, 9);
+        net.carry(0);
+        Check.ticks(net, 4);
+        spurt("two gaps", net, "1 1 3 1 2 0 " + gaps(0, 2));
+        Check.comes(net, "9/0/1(1,1,1)");
+        Check.comes(net, "9/0/1(1,9,9)");
+        spurt("one is late, one is kept", net, "1 1 3 1 2 1 " + gaps(0, 2));
+        net.tick();
+        spurt("three gaps", net, "1 1 4 1 3 1 " + gaps(0, 3));
+        net.tick();
+        spurt("four gaps", net, "1 0 5 1 4 1 " + gaps(0, 4));
+    }
+
+    /** What is late by its grant changes nothing else: not what is kept, nor since when, nor the gaps. */
+    private static void olderOnesChangeNothingElse() {
+        TalkNet net = talking();
+        pass(net, 1);
+        grantAnew(net);
+        Check.ticks(net, 3);
+        Check.due("row", Check.row(net), "9/0/1(1,0,1)");
+        pass(net, 5, 6);
+        net.carry(1);
+        net.twice(0);
+        net.tick();
+        spurt("since one tick", net, "2 1 0 0 0 1 0");
+        net.twice(0);
+        net.tick();
+        spurt("since two ticks", net, "2 1 1 1 0 2 5");
+        Check.comes(net, "9/0/1(2,1,6)");
+        net.twice(0);
+        net.tick();
+        spurt("what was kept", net, "2 1 2 2 0 3 161");
+        Check.ticks(net, 2);
+        net.twice(0);
+        net.tick();
+        spurt("three gaps", net, "2 1 5 2 3 4 " + gaps(161, 3));
+        net.tick();
+        spurt("four gaps", net, "2 0 6 2 4 4 " + gaps(161, 4));
     }
 
     /** "PASSED comes: with a below its grant ...: it is late" */

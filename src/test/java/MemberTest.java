@@ -3,6 +3,7 @@ public final class MemberTest {
     public static void main(String[] args) {
         isThereWithAPriority();
         newPriorityChangesNothingElse();
+        newPriorityChangesNoSpurt();
         asks();
         asksByNumbersOfItsOwn();
         askingKeepsWhatIsTold();
@@ -27,6 +28,8 @@ public final class MemberTest {
         talkerComes();
         talkerComesInEachState();
         talkerOfAnOlderGrant();
+        talkerBelowItsOwnGrant();
+        talkerBehindAllElse();
         Check.end();
     }
 
@@ -51,6 +54,26 @@ public final class MemberTest {
                     + "; " + Check.waiting(net, 0), before);
             Check.due("no message in state " + state, net.messages(), 0);
         }
+    }
+
+    /** The same, for one that listens: what is kept, since when, and how many gaps are one behind the other. */
+    private static void newPriorityChangesNoSpurt() {
+        TalkNet net = Check.inState(0, 0, 3);
+        net.unit(0, 0, 4);
+        net.unit(0, 0, 5);
+        Check.carryAll(net);
+        net.tick();
+        net.member(0, 1, 6);
+        net.tick();
+        Check.due("since two ticks", Check.about(net, 0, 1, 8, 14), "1 1 1 1 0 0 4");
+        net.member(0, 1, 6);
+        net.tick();
+        Check.due("what was kept", Check.about(net, 0, 1, 8, 14), "1 1 2 2 0 0 129");
+        Check.ticks(net, 3);
+        net.member(0, 1, 7);
+        Check.due("three gaps", Check.about(net, 0, 1, 7, 13), "0 1 1 5 2 3 0");
+        net.tick();
+        Check.due("four gaps", Check.about(net, 0, 1, 7, 13), "0 1 0 6 2 4 0");
     }
 
     /** Promise 5: "its request's number grows by 1, it asked, REQUEST is sent: the number." */
@@ -130,6 +153,10 @@ public final class MemberTest {
         net.again(0, 1);
         net.again(0, 2);
         Check.due("as the last one was", Check.row(net), "1/0/1(2,0,0) 1/0/2(2,1,0)");
+        Check.dropAll(net);
+        net.member(0, 2, 7);
+        net.again(0, 2);
+        Check.due("with a new priority, too", Check.row(net), "1/0/2(2,1,0)");
     }
 
     /** Promise 7: "A member sends RELEASE, and has none." */
@@ -230,6 +257,9 @@ public final class MemberTest {
         net.press(0, 0, false);
         Check.comes(net, FIRST_GRANTED);
         state("to one that asked anew", net, 0, "1 2 0 0 0");
+        net.again(0, 0);
+        Check.due("its REQUEST is as it was", Check.message(net, net.messages() - 1), "1/0/0(2,0,0)");
+        net.drop(net.messages() - 1);
         net.press(0, 1, false);
         Check.comes(net, "2/0/0(1,0,0)");
         Check.comes(net, "1/0/1(1,0,0)");
@@ -506,5 +536,91 @@ public final class MemberTest {
         Check.due("the second is below", net.about(0, 3, 7), 2);
         Check.comes(net, "8/0/3(1,0,0)");
         Check.due("so is the first", net.about(0, 3, 7), 2);
+        net.member(0, 3, 5);
+        Check.comes(net, "8/0/3(2,1,0)");
+        Check.due("with a new priority, too", net.about(0, 3, 7), 2);
+        net.leave(0, 3);
+        net.member(0, 3, 5);
+        Check.comes(net, "8/0/3(2,1,0)");
+        Check.due("and when it is there again", net.about(0, 3, 7), 2);
+    }
+
+    /** "the one that it saw last" is a TALKER's: its own grant is none that it saw. */
+    private static void talkerBelowItsOwnGrant() {
+        TalkNet net = Check.with(0, 2, 0);
+        net.press(0, 0, false);
+        net.press(0, 1, false);
+        net.run(2);
+        net.leave(0, 0);
+        Check.comes(net, "3/0/1(1,2,0)");
+        state("granted", net, 1, "3 1 0 2 0");
+        Check.due("it saw nobody", net.about(0, 1, 7), -1);
+        Check.comes(net, "8/0/1(1,0,0)");
+        Check.due("it sees the first", net.about(0, 1, 7), 0);
+    }
+
+    /** The member asks, is queued, granted, revoked and ended, and leaves; nobody is there beside it behind that. */
+    private static void goThroughAllStates(TalkNet net) {
+        net.press(0, 1, false);
+        net.again(0, 1);
+        net.carry(1);
+        net.carry(1);
+        net.carry(1);
+        net.carry(2);
+        state(net, 3);
+        net.unit(0, 1, 5);
+        net.unit(0, 1, 6);
+        keepFirst(net);
+        net.member(0, 2, 7);
+        net.press(0, 2, true);
+        net.carry(1);
+        net.carry(2);
+        state(net, 4);
+        keepFirst(net);
+        net.tick();
+        net.carry(1);
+        state(net, 0);
+        keepFirst(net);
+        net.press(0, 1, false);
+        net.carry(1);
+        net.carry(1);
+        state(net, 2);
+        net.again(0, 1);
+        net.release(0, 1);
+        net.leave(0, 1);
+        net.leave(0, 2);
+        net.member(0, 1, 0);
+        keepFirst(net);
+    }
+
+    private static void state(TalkNet net, int want) {
+        Check.due("the state", net.about(0, 1, 2), want);
+    }
+
+    private static void keepFirst(TalkNet net) {
+        while (net.messages() > 1) {
+            net.drop(1);
+        }
+    }
+
+    /** "the one that it saw last (0 at first)": nothing but a TALKER that comes is seen. */
+    private static void talkerBehindAllElse() {
+        TalkNet net = new TalkNet();
+        net.rules(0, true, 100, 50, 0);
+        net.member(0, 1, 0);
+        net.member(0, 2, 0);
+        net.press(0, 2, false);
+        net.carry(0);
+        net.drop(0);
+        net.drop(0);
+        net.leave(0, 2);
+        keepFirst(net);
+        Check.due("the first TALKER", Check.row(net), "8/0/1(1,2,0)");
+        for (int i = 0; i < 3; i++) {
+            goThroughAllStates(net);
+        }
+        Check.due("it saw nobody", net.about(0, 1, 7), -1);
+        net.carry(0);
+        Check.due("it sees the first", net.about(0, 1, 7), 2);
     }
 }

@@ -3,6 +3,7 @@ public final class NetTest {
     public static void main(String[] args) {
         partsOfEachKind();
         partsOfGates();
+        inTheOrderInWhichTheyWereSent();
         carriesInAnyOrder();
         answersComeBehindAllOthers();
         carriesTwice();
@@ -79,6 +80,27 @@ public final class NetTest {
             net.leave(1, m);
             Check.due("the gate of nobody", Check.row(net), "10/1/0(1,-1,0)");
         }
+    }
+
+    /** "MESSAGES are on their way in a row, in the order in which they were sent": of all groups, in one row. */
+    private static void inTheOrderInWhichTheyWereSent() {
+        TalkNet net = new TalkNet();
+        for (int g : new int[] {2, 0, 1}) {
+            net.member(g, 3, 0);
+            net.member(g, 1, 0);
+        }
+        net.press(2, 3, false);
+        net.press(0, 1, true);
+        net.press(1, 3, false);
+        net.press(0, 3, false);
+        net.release(2, 3);
+        net.again(1, 3);
+        Check.due("by members", Check.row(net),
+                "1/2/3(1,0,0) 1/0/1(1,1,0) 1/1/3(1,0,0) 1/0/3(1,0,0) 2/2/3(1,0,0) 1/1/3(1,0,0)");
+        net.carry(2);
+        net.carry(0);
+        Check.due("by servers", Check.row(net), "1/0/1(1,1,0) 1/0/3(1,0,0) 2/2/3(1,0,0) 1/1/3(1,0,0)"
+                + " 3/1/3(1,1,0) 10/1/3(1,3,0) 8/1/1(1,3,0) 3/2/3(1,1,0) 10/2/3(1,3,0) 8/2/1(1,3,0)");
     }
 
     /** Promise 11: the first, one in the middle, the last. */

@@ -13,6 +13,8 @@ public final class ServerTest {
         deniesWhenFourWait();
         deniesAnew();
         belowTheGreatestIsNothing();
+        belowKeepsDenied();
+        belowDeniesNothing();
         equalWhenItHolds();
         equalWhenItHoldsRevoked();
         equalWhenItWaits();
@@ -39,6 +41,7 @@ public final class ServerTest {
         preemptsByTheHoldersRules();
         preemptsOnce();
         preemptsByTheHoldersPriorityAsHeard();
+        preemptingOneWaitsAsItWasHeard();
         deniedDoesNotPreempt();
         waitingAgainDoesNotPreempt();
         revokedFromThisTickOn();
@@ -283,6 +286,44 @@ public final class ServerTest {
         free.carry(0);
         server("the greatest was released", free, "0 -1 0 0 -1 -1");
         row("no answer", free, "2/0/0(1,0,0) 1/0/0(2,0,0)");
+    }
+
+    /** "whether that was denied": no REQUEST or RELEASE below the greatest changes that. */
+    private static void belowKeepsDenied() {
+        TalkNet net = waits(4);
+        net.press(0, 5, false);
+        net.release(0, 5);
+        net.press(0, 5, false);
+        net.twice(2);
+        row("denied", net, "1/0/5(1,0,0) 2/0/5(1,0,0) 1/0/5(2,0,0) 5/0/5(2,0,0)");
+        net.drop(3);
+        net.carry(0);
+        net.twice(1);
+        row("behind a REQUEST below", net, "2/0/5(1,0,0) 1/0/5(2,0,0) 5/0/5(2,0,0)");
+        net.drop(2);
+        net.carry(0);
+        net.carry(0);
+        row("behind a RELEASE below", net, "5/0/5(2,0,0)");
+    }
+
+    private static void belowDeniesNothing() {
+        TalkNet net = waits(1);
+        for (int i = 0; i < 2; i++) {
+            net.press(0, 5, false);
+            net.release(0, 5);
+        }
+        net.twice(2);
+        net.carry(3);
+        net.drop(3);
+        waiting("it waited", net, "1");
+        row("row", net, "1/0/5(1,0,0) 2/0/5(1,0,0) 1/0/5(2,0,0)");
+        net.carry(0);
+        net.twice(1);
+        row("behind a REQUEST below", net, "2/0/5(1,0,0) 1/0/5(2,0,0)");
+        net.carry(0);
+        net.carry(0);
+        row("behind a RELEASE below", net, "");
+        waiting("it does not wait again", net, "1");
     }
 
     /** "Equal: if its member holds the floor by it, GRANTED" */
@@ -696,6 +737,30 @@ public final class ServerTest {
         net.press(0, 1, false);
         net.carry(0);
         row("5 over 3, that is 6 now", net, "4/0/1(1,0,0) 6/0/0(1,0,0)");
+    }
+
+    private static void preemptingOneWaitsAsItWasHeard() {
+        TalkNet net = heldBy(0, 3, 5, 5, 6);
+        net.release(0, 0);
+        Check.carryAll(net);
+        net.rules(0, true, 50, 50, 20);
+        Check.ask(net, 0, 0, false);
+        net.press(0, 1, false);
+        net.twice(0);
+        row("it preempts", net, "1/0/1(1,0,0) 4/0/1(1,0,0) 6/0/0(2,0,0)");
+        net.drop(1);
+        net.drop(1);
+        for (int m = 2; m <= 3; m++) {
+            net.press(0, m, false);
+            net.carry(1);
+            net.drop(1);
+        }
+        waiting("an equal one behind it, a greater one before it", net, "3 1 2");
+        net.release(0, 1);
+        net.carry(1);
+        waiting("it waits no more", net, "3 2");
+        net.carry(0);
+        row("its REQUEST has no answer any more", net, "");
     }
 
     private static void deniedDoesNotPreempt() {
