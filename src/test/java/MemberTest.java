@@ -30,6 +30,7 @@ public final class MemberTest {
         talkerOfAnOlderGrant();
         talkerBelowItsOwnGrant();
         talkerBehindAllElse();
+        talkerBehindDenied();
         Check.end();
     }
 
@@ -622,5 +623,29 @@ public final class MemberTest {
         Check.due("it saw nobody", net.about(0, 1, 7), -1);
         net.carry(0);
         Check.due("it sees the first", net.about(0, 1, 7), 2);
+    }
+
+    private static void talkerBehindDenied() {
+        TalkNet net = Check.with(0, 6, 0);
+        net.press(0, 0, false);
+        net.carry(0);
+        for (int i = 0; i < 6; i++) {
+            net.drop(0);
+        }
+        Check.due("the first TALKER", Check.row(net), "8/0/5(1,0,0)");
+        for (int m = 1; m <= 4; m++) {
+            net.press(0, m, false);
+            net.carry(1);
+            keepFirst(net);
+        }
+        for (int i = 0; i < 3; i++) {
+            net.press(0, 5, false);
+            net.carry(1);
+            Check.due("DENIED", net.message(1, 0), 5);
+            net.carry(1);
+        }
+        Check.due("it saw nobody", net.about(0, 5, 7), -1);
+        net.carry(0);
+        Check.due("it sees the first", net.about(0, 5, 7), 0);
     }
 }
